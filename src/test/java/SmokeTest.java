@@ -1,1 +1,0 @@
-public final class SmokeTest { public static void main(String[] a) { new KindergartenPlanner(); } }
