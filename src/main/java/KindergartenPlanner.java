@@ -512,10 +512,7 @@ public final class KindergartenPlanner {
         if (days < 1 || days > 31 || most < 1 || most > DAYS || wage < 1 || wage > 1000) {
             return BAD;
         }
-        if (search.isFull()) {
-            return FULL;
-        }
-        return search.join(new Substitute(days, most, wage));
+        return search.join(days, most, wage);
     }
 
     public int shortage(int week, int day) {
@@ -820,15 +817,11 @@ public final class KindergartenPlanner {
         final int[] shortages = new int[DAYS];
         final int[] bestSets = new int[DAYS];
 
-        boolean isFull() {
-            return count >= substitutes.length;
-        }
-
-        int join(Substitute substitute) {
-            if (isFull()) {
+        int join(int days, int most, int wage) {
+            if (count >= substitutes.length) {
                 return FULL;
             }
-            substitutes[count] = substitute;
+            substitutes[count] = new Substitute(days, most, wage);
             count++;
             return count - 1;
         }
